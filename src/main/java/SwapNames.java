@@ -26,11 +26,11 @@ public final class SwapNames {
         0x2013, 0x2031, 0x2103, 0x2130, 0x2301, 0x2310,
         0x3012, 0x3021, 0x3102, 0x3120, 0x3201, 0x3210};
 
-    private final Texts texts = new Texts();
+    private final Texts texts;
     private final Sheets sheets = new Sheets();
-    private final Solver solver = new Solver(texts);
-    // Tries (ways, spare, alike) have a solver of their own, so that the values of the answer stay.
-    private final Solver trial = new Solver(texts);
+    private final Solver solver;
+    // Tries (ways, spare, alike) have a solver of their own, so that the VALUES of the answer stay.
+    private final Solver trial;
     private boolean settled = false;
     private final int[] ways = new int[ORDERS * 4];
     private int waysKnown = 0;
@@ -42,6 +42,10 @@ public final class SwapNames {
     private final Line turnLine = new Line();
 
     public SwapNames() {
+        Texts all = new Texts();
+        texts = all;
+        solver = new Solver(all);
+        trial = new Solver(all);
         Arrays.fill(noValues, NONE);
     }
 
@@ -945,8 +949,8 @@ public final class SwapNames {
         // Whether UNKNOWNS may get no VALUES: then SOLVING an EQUATION is asking whether both are ALIKE.
         private boolean isRigid = false;
 
-        Solver(Texts texts) {
-            this.texts = texts;
+        Solver(Texts all) {
+            texts = all;
         }
 
         /** SOLVING in an order, of some EQUATIONS (as bits), those that are there. */
