@@ -664,6 +664,11 @@ public final class SwapNames {
             return pair < 0 || pair + 1 >= NODES ? 0 : behind[pair + 1] - pair - 1;
         }
 
+        /** The second TERM of a PAIR, under the same TURN. */
+        int secondOf(int spot) {
+            return Spots.further(spot, 1 + firstLength(Spots.node(spot)));
+        }
+
         int toldFreshIn(int unknown) {
             return toldFresh[unknown];
         }
@@ -906,7 +911,7 @@ public final class SwapNames {
                     break;
                 case PAIR:
                     putByte(',');
-                    await(Spots.further(spot, 1 + texts.firstLength(node)));
+                    await(texts.secondOf(spot));
                     await(Spots.further(spot, 1));
                     break;
                 case BINDER:
@@ -1089,7 +1094,7 @@ public final class SwapNames {
                     }
                     break;
                 case PAIR:
-                    pile(Spots.further(left, 1 + texts.firstLength(node)), Spots.further(right, 1 + texts.firstLength(other)));
+                    pile(texts.secondOf(left), texts.secondOf(right));
                     pile(Spots.further(left, 1), Spots.further(right, 1));
                     break;
                 case BINDER:

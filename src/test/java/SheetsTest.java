@@ -190,6 +190,7 @@ public final class SheetsTest {
         for (int what = 0; what < 9; what++) {
             check.due("count " + what + " then", x.count(what), then[what]);
         }
+        check.due("STEPS, asked for first", Check.with("P", "a", "0a", "0P").count(6), 3);
         for (int bad : new int[] {-1, 9, LEAST, Integer.MAX_VALUE}) {
             check.due("count " + bad, x.count(bad), -2);
         }

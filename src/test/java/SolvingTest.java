@@ -104,6 +104,7 @@ public final class SolvingTest {
         values("!abP .a,aQ", ".b,b!abQ", "Q");
         values("P ,QR Q 0R R .aa", ",0.aa.aa", "0.aa", ".aa");
         values("P !abQ Q ,aR", ",b!abR", ",aR", "R");
+        values(".aP !ab!bc.aQ", "P", "!bcP");
         values("a b", "", "", "", "", "", "");
         values("P a       aP", "", "");
         values("P 0P", "");
@@ -118,6 +119,10 @@ public final class SolvingTest {
         Check.retype(x, 1, "b");
         check.due("value anew", Check.value(x, 0), "b");
         check.due("value of another", Check.value(x, 5), "U");
+        Check.retype(x, 0, "a");
+        check.due("CLASH at 0", x.solved(1), 0);
+        x.wipe(0);
+        check.due("no CLASH any more", x.solved(1), -1);
     }
 
     private static void fresh(String texts, int... want) {
@@ -147,6 +152,8 @@ public final class SolvingTest {
         fresh("P a       aP", 0);
         fresh("P 0a Q 0R     aQbRcPdQ", 0, 0, 11);
         fresh("P !abP P ,QR", 0, 3, 3);
+        fresh("!abP P !bcP P", 7);
+        fresh(".aP !ab!bc.aQ", 2, 0);
     }
 
     private static void needs(String texts, int... want) {

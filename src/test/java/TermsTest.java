@@ -152,6 +152,9 @@ public final class TermsTest {
         alike("!cd.aP", ".b!cd!abP", "bP", 1);
         alike(".c!abP", ".d!abP", "cPdP", 1);
         alike(".a,aP", ".b,bP", "aPbPc", 0);
+        SwapNames x = Check.with("P", "!abP", "P", "P");
+        check.due("alike, not", x.alike(0), 0);
+        check.due("alike, behind another", x.alike(1), 1);
         check.due("alike of none", Check.with("a").alike(0), -3);
         check.due("alike of an ill one", Check.with("a", "g").alike(0), -3);
         check.due("alike with no VALUES", Check.with("P", "a", "P", "a").alike(1), 0);

@@ -7,6 +7,7 @@ public final class TurnTest {
         power();
         rounds();
         shows();
+        showsAnew();
         wrongNumbers();
         check.end("TurnTest");
     }
@@ -96,6 +97,15 @@ public final class TurnTest {
             SwapNames again = turning(row[1].replace("!", ""));
             check.due("shows again " + row[0], images(again, 0), images(x, 0));
         }
+    }
+
+    private static void showsAnew() {
+        SwapNames x = turning("ab");
+        check.due("shows at first", Check.shows(x), "!ab");
+        Check.type(x, 9, "cd");
+        check.due("shows then", Check.shows(x), "!ab!cd");
+        x.undo(9);
+        check.due("shows with a FAULT", Check.shows(x), "");
     }
 
     private static void wrongNumbers() {
