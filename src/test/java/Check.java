@@ -29,21 +29,21 @@ final class Check {
     }
 
     /** A new object with texts 0, 1, 2 and so on typed. */
-    static SwapNames with(String... texts) {
-        SwapNames x = new SwapNames();
+    static Subject with(String... texts) {
+        Subject x = new Subject();
         for (int text = 0; text < texts.length; text++) {
             type(x, text, texts[text]);
         }
         return x;
     }
 
-    static void type(SwapNames x, int text, String bytes) {
+    static void type(Subject x, int text, String bytes) {
         for (int i = 0; i < bytes.length(); i++) {
             x.type(text, bytes.charAt(i));
         }
     }
 
-    static void retype(SwapNames x, int text, String bytes) {
+    static void retype(Subject x, int text, String bytes) {
         x.wipe(text);
         type(x, text, bytes);
     }
@@ -63,19 +63,19 @@ final class Check {
         return out.toString();
     }
 
-    static String shows(SwapNames x) {
+    static String shows(Subject x) {
         return told(x::shows);
     }
 
-    static String shown(SwapNames x, int text) {
+    static String shown(Subject x, int text) {
         return told(i -> x.shown(text, i));
     }
 
-    static String turned(SwapNames x, int text) {
+    static String turned(Subject x, int text) {
         return told(i -> x.turned(text, i));
     }
 
-    static String value(SwapNames x, int unknown) {
+    static String value(Subject x, int unknown) {
         return told(i -> x.value(unknown, i));
     }
 }

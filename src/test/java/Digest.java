@@ -6,7 +6,7 @@ final class Digest {
         h = 31 * h + answer;
     }
 
-    static long of(SwapNames x) {
+    static long of(Subject x) {
         Digest d = new Digest();
         for (int what = 0; what <= 7; what++) {
             d.take(x.count(what));

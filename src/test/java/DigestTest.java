@@ -15,9 +15,9 @@ public final class DigestTest {
 
     /** Written down once, so that a change of what is told, or of its order, is seen. */
     private static void fixedOnes() {
-        SwapNames two = Check.with(".aa", ".bb", ".a.b,ab", ".b.a,ba", "P", "!abP", "P", "b");
+        Subject two = Check.with(".aa", ".bb", ".a.b,ab", ".b.a,ba", "P", "!abP", "P", "b");
         check.due("digest of BOUND", two.digest(), -4710714878197079991L);
-        SwapNames five = Check.with(",aP");
+        Subject five = Check.with(",aP");
         check.due("digest of one TERM", five.digest(), -4782547144296980453L);
     }
 
@@ -25,7 +25,7 @@ public final class DigestTest {
         String[] all = {"", "P a", "a b", "P 0P", "P a       aP", "g", ",PQ ,aR Q .a!bcS T ,ST U 0R fPbQ abbcdeef",
             ".a,aP .b,bQ 0P 0!ab,cR       abbcde", ",P,Q,R,S,TU ,,QQ,,RR,,SS,,TT,,UU* ,P,P,P,P,P,P,P,P,PP ,P,P,P,P,P,P,P,P,PP"};
         for (String texts : all) {
-            SwapNames x = Check.with(texts.split(" ", -1));
+            Subject x = Check.with(texts.split(" ", -1));
             long digest = x.digest();
             check.due("digest of " + texts, digest, Digest.of(Check.with(texts.split(" ", -1))));
             check.due("digest again of " + texts, x.digest(), digest);
@@ -36,17 +36,17 @@ public final class DigestTest {
         Set<Long> seen = new HashSet<>();
         for (int text = 0; text < 10; text++) {
             for (String bytes : new String[] {"a", "gg", "aba"}) {
-                SwapNames x = new SwapNames();
+                Subject x = new Subject();
                 Check.type(x, text, bytes);
                 seen.add(x.digest());
             }
         }
-        seen.add(new SwapNames().digest());
+        seen.add(new Subject().digest());
         check.due("unlike digests", seen.size(), 31);
     }
 
     private static void sheetsDoNotTell() {
-        SwapNames x = Check.with("P", "a");
+        Subject x = Check.with("P", "a");
         long digest = x.digest();
         x.sheet(0, 0, 5);
         x.lay(0, 0, 0, 9);

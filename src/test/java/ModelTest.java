@@ -8,7 +8,7 @@ public final class ModelTest {
     private static final int[] wild = {-1, -2, 6, 60, 61, 255, 256, Integer.MIN_VALUE, Integer.MAX_VALUE, 65536 + 97, -3, 4, 24, 30};
 
     private final Random random;
-    private final SwapNames x = new SwapNames();
+    private final Subject x = new Subject();
     private final Model m = new Model();
     private int namesUsed;
     private int unknownsUsed;

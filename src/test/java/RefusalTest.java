@@ -3,7 +3,7 @@ public final class RefusalTest {
     private static final Check check = new Check();
 
     public static void main(String[] args) {
-        SwapNames x = Check.with(",PQ", ",aR", "000000000000000000000000000000", "", "S", "!abS", "", "", "aPbQaPbQaPbQaPbQaPbQaPbQ", "ab");
+        Subject x = Check.with(",PQ", ",aR", "000000000000000000000000000000", "", "S", "!abS", "", "", "aPbQaPbQaPbQaPbQaPbQaPbQ", "ab");
         x.sheet(0, 0, 3);
         x.sheet(1, 1, 2);
         x.lay(0, 0, 1, 77);
@@ -18,7 +18,7 @@ public final class RefusalTest {
         check.end("RefusalTest");
     }
 
-    private static String look(SwapNames x) {
+    private static String look(Subject x) {
         StringBuilder out = new StringBuilder();
         out.append(x.digest());
         for (int i = 0; i < 3; i++) {
@@ -30,7 +30,7 @@ public final class RefusalTest {
         return out.append(' ').append(x.count(4)).toString();
     }
 
-    private static void refuse(SwapNames x) {
+    private static void refuse(Subject x) {
         check.due("type BAD", x.type(10, 0), -2);
         check.due("type BAD byte", x.type(0, 256), -2);
         check.due("type FULL", x.type(2, 97), -4);
@@ -51,7 +51,7 @@ public final class RefusalTest {
         check.due("write BAD", x.write(6, 0), -2);
     }
 
-    private static void find(SwapNames x) {
+    private static void find(Subject x) {
         check.due("read NULL", x.read(0, 2), -11);
         check.due("lose NULL", x.lose(2), -11);
         check.due("write NULL", x.write(0, 2), -11);

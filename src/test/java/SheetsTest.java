@@ -15,7 +15,7 @@ public final class SheetsTest {
     }
 
     private static void sheet() {
-        SwapNames x = new SwapNames();
+        Subject x = new Subject();
         for (int s = 0; s < 4; s++) {
             check.due("sheet", x.sheet(s, s % 3, 60 - s), 60 - s);
             check.due("item at first", x.get(s, s % 3, 59 - s), 0);
@@ -45,7 +45,7 @@ public final class SheetsTest {
     }
 
     private static void lose() {
-        SwapNames x = new SwapNames();
+        Subject x = new Subject();
         check.due("lose a LOST one", x.lose(2), -11);
         check.due("finding", x.count(8), 1);
         x.sheet(2, 1, 9);
@@ -57,7 +57,7 @@ public final class SheetsTest {
     }
 
     private static void layAndGet() {
-        SwapNames x = new SwapNames();
+        Subject x = new Subject();
         for (int form = 0; form < 3; form++) {
             x.sheet(form, form, 3);
         }
@@ -75,7 +75,7 @@ public final class SheetsTest {
     }
 
     private static void orderOfRefusals() {
-        SwapNames x = new SwapNames();
+        Subject x = new Subject();
         x.sheet(0, 1, 2);
         x.lay(0, 1, 1, 5);
         Object[][] rows = {{-1, 1, 0, -2}, {4, 1, 0, -2}, {0, -1, 0, -2}, {0, 3, 0, -2}, {1, 3, 9, -2}, {1, 1, 9, -11}, {1, 1, 0, -11},
@@ -95,7 +95,7 @@ public final class SheetsTest {
         }
     }
 
-    private static String items(SwapNames x, int s, int form, int n) {
+    private static String items(Subject x, int s, int form, int n) {
         StringBuilder out = new StringBuilder();
         for (int i = 0; i < n; i++) {
             out.append(x.get(s, form, i));
@@ -104,7 +104,7 @@ public final class SheetsTest {
     }
 
     private static void copy() {
-        SwapNames x = new SwapNames();
+        Subject x = new Subject();
         x.sheet(0, 2, 5);
         x.sheet(1, 2, 3);
         x.sheet(2, 1, 5);
@@ -142,7 +142,7 @@ public final class SheetsTest {
 
     private static void write() {
         for (int form = 0; form < 3; form++) {
-            SwapNames x = Check.with("P", ",a.b!cdQ");
+            Subject x = Check.with("P", ",a.b!cdQ");
             x.sheet(0, form, 12);
             x.lay(0, form, 8, 99);
             check.due("write", x.write(0, 0), 8);
@@ -163,7 +163,7 @@ public final class SheetsTest {
             check.due("write with no answer", x.write(0, 0), 0);
             check.due("the first stays", x.get(0, form, 0), ',');
         }
-        SwapNames x = Check.with(",P,Q,R,S,TU", ",,QQ,,RR,,SS,,TT,,UU*");
+        Subject x = Check.with(",P,Q,R,S,TU", ",,QQ,,RR,,SS,,TT,,UU*");
         x.sheet(3, 0, 60);
         check.due("write 60", x.write(0, 3), 60);
         check.due("the last", x.get(3, 0, 59), '*');
@@ -176,7 +176,7 @@ public final class SheetsTest {
     }
 
     private static void count() {
-        SwapNames x = Check.with("P", "a", "P", "", "g", "a", "", "", "a", "abbc");
+        Subject x = Check.with("P", "a", "P", "", "g", "a", "", "", "a", "abbc");
         long[] want = {1, 0, 0, 0, 10, 0, 1, 2, 0};
         for (int what = 0; what < 9; what++) {
             check.due("count " + what, x.count(what), want[what]);

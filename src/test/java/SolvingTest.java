@@ -15,7 +15,7 @@ public final class SolvingTest {
     }
 
     private static void solved(String texts, int why, int where, int steps, int values) {
-        SwapNames x = Check.with(texts.split(" ", -1));
+        Subject x = Check.with(texts.split(" ", -1));
         int[] want = {why, where, steps, values};
         for (int what = 0; what < 4; what++) {
             check.due("solved " + what + " of '" + texts + "'", x.solved(what), want[what]);
@@ -78,7 +78,7 @@ public final class SolvingTest {
         solved(left + more + " " + more, 4, 1, 600, 6);
         // The 600th STEP may still tell a CLASH.
         solved(left + ",P,P,P,P,P,P,P,P,Q,Q,S,Ta ,P,P,P,P,P,P,P,P,Q,Q,S,Tb", 1, 1, 600, 6);
-        SwapNames x = Check.with((left + more + " " + more).split(" "));
+        Subject x = Check.with((left + more + " " + more).split(" "));
         check.due("value of LONG", x.value(0, -1), 0);
         check.due("needs of LONG", x.needs(0), 0);
         check.due("spare of LONG", x.spare(), 0);
@@ -86,7 +86,7 @@ public final class SolvingTest {
     }
 
     private static void values(String texts, String... want) {
-        SwapNames x = Check.with(texts.split(" ", -1));
+        Subject x = Check.with(texts.split(" ", -1));
         for (int unknown = 0; unknown < want.length; unknown++) {
             check.due("value " + unknown + " of '" + texts + "'", Check.value(x, unknown), want[unknown]);
         }
@@ -111,7 +111,7 @@ public final class SolvingTest {
         values("P a P b", "");
         values(",P,Q,R,S,TU ,,QQ,,RR,,SS,,TT,,UU*", ",,,,,**,**,,**,**,,,**,**,,**,**,,,,**,**,,**,**,,,**,**,,**,**".substring(0, 60),
             ",,,,**,**,,**,**,,,**,**,,**,**", ",,,**,**,,**,**", ",,**,**", ",**", "*");
-        SwapNames x = Check.with("P", "a");
+        Subject x = Check.with("P", "a");
         check.due("value ahead", Check.value(x, 0), "a");
         Check.type(x, 8, "aP");
         check.due("value behind", Check.value(x, 0), "");
@@ -126,7 +126,7 @@ public final class SolvingTest {
     }
 
     private static void fresh(String texts, int... want) {
-        SwapNames x = Check.with(texts.split(" ", -1));
+        Subject x = Check.with(texts.split(" ", -1));
         for (int unknown = 0; unknown < want.length; unknown++) {
             check.due("fresh " + unknown + " of '" + texts + "'", x.fresh(unknown), want[unknown]);
         }
@@ -157,7 +157,7 @@ public final class SolvingTest {
     }
 
     private static void needs(String texts, int... want) {
-        SwapNames x = Check.with(texts.split(" ", -1));
+        Subject x = Check.with(texts.split(" ", -1));
         for (int unknown = 0; unknown < want.length; unknown++) {
             check.due("needs " + unknown + " of '" + texts + "'", x.needs(unknown), want[unknown]);
         }
@@ -174,7 +174,7 @@ public final class SolvingTest {
     }
 
     private static void ways() {
-        SwapNames x = Check.with("P", "a", "P", "b", "P", "c", "P", "d");
+        Subject x = Check.with("P", "a", "P", "b", "P", "c", "P", "d");
         String[] orders = {"0123", "0132", "0213", "0231", "0312", "0321", "1023", "1032", "1203", "1230", "1302", "1320",
             "2013", "2031", "2103", "2130", "2301", "2310", "3012", "3021", "3102", "3120", "3201", "3210"};
         for (int k = 0; k < 24; k++) {
@@ -184,7 +184,7 @@ public final class SolvingTest {
             check.due("way " + k + " values", x.way(k, 3), 1);
         }
         // CLASH at 0, LOOP at 1, two VALUES at 2 and a long way at 3: each order tells where it came first.
-        SwapNames y = Check.with("a", "b", "P", "0P", ",QR", ",ab", "00a", "00a");
+        Subject y = Check.with("a", "b", "P", "0P", ",QR", ",ab", "00a", "00a");
         int[] steps = {0, 0, 3, 3};
         for (int k = 0; k < 24; k++) {
             int sum = 0;
@@ -229,7 +229,7 @@ public final class SolvingTest {
         spare("Q b P a     aP", 1);
         spare("P a Q b     aPbQ", -1);
         spare("a a a a a a a b", 3);
-        SwapNames x = Check.with("P", "a", "Q", "R", "P", "b");
+        Subject x = Check.with("P", "a", "Q", "R", "P", "b");
         check.due("spare", x.spare(), 0);
         check.due("solved after spare", x.solved(0), 1);
         check.due("where after spare", x.solved(1), 2);
@@ -239,7 +239,7 @@ public final class SolvingTest {
     }
 
     private static void wrongNumbers() {
-        SwapNames x = Check.with("P", "a");
+        Subject x = Check.with("P", "a");
         for (int bad : new int[] {-1, 4, Integer.MIN_VALUE, Integer.MAX_VALUE}) {
             check.due("solved " + bad, x.solved(bad), -2);
             check.due("way what " + bad, x.way(0, bad), -2);

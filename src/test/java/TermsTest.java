@@ -42,7 +42,7 @@ public final class TermsTest {
             {"aa", 0, 0, 0, 0}};
         for (Object[] row : rows) {
             for (int text = 0; text < 8; text += 7) {
-                SwapNames x = new SwapNames();
+                Subject x = new Subject();
                 Check.type(x, text, (String) row[0]);
                 for (int what = 0; what < 4; what++) {
                     check.due("term " + what + " of " + row[0], x.term(text, what), (Integer) row[what + 1]);
@@ -58,7 +58,7 @@ public final class TermsTest {
             {".a!abP", ".a!abP"}, {"!ab.a!abP", ".bP"}, {"!ef,,ef,FP", ""}, {"aa", ""}, {",P", ""}};
         for (String[] row : rows) {
             for (int text = 0; text < 8; text += 7) {
-                SwapNames x = new SwapNames();
+                Subject x = new Subject();
                 Check.type(x, text, row[0]);
                 check.due("shown " + row[0], Check.shown(x, text), row[1]);
             }
@@ -70,13 +70,13 @@ public final class TermsTest {
             {"!bcP", "ab", "!ab!bcP"}, {".a,aP", "abbcde", ".b,b!ab!bc!deP"}, {"!abc", "abbc", "a"}, {",a*", "abbc", ",b*"},
             {"!ab,a2Q", "ab", ",a2Q"}, {"a", "abc", "a"}, {"aa", "ab", ""}};
         for (String[] row : rows) {
-            SwapNames x = new SwapNames();
+            Subject x = new Subject();
             Check.type(x, 6, row[0]);
             Check.type(x, 9, row[1]);
             check.due("turned " + row[0] + " by " + row[1], Check.turned(x, 6), row[2]);
             check.due("but shown " + row[0], Check.shown(x, 6), Check.shown(Check.with(row[0]), 0));
         }
-        SwapNames x = Check.with("a", "P");
+        Subject x = Check.with("a", "P");
         check.due("turned ahead", Check.turned(x, 0), "a");
         Check.type(x, 9, "af");
         check.due("turned behind", Check.turned(x, 0), "f");
@@ -89,7 +89,7 @@ public final class TermsTest {
         String six = "!ab!bc!cd!de!ef,,PPP";
         String all = ",,!ab!bc!cd!de!efP!ab!bc!cd!de!efP!ab!bc!cd!de!efP";
         check.due("shown of 50", Check.shown(Check.with(six), 0), all);
-        SwapNames x = Check.with("!ab!bc!cd!de!ef,,,PPPP");
+        Subject x = Check.with("!ab!bc!cd!de!ef,,,PPPP");
         check.due("shown of more", Check.shown(x, 0), ("," + all + "!ab!bc!cd!de!ef").substring(0, 60));
         check.due("shown how many", x.shown(0, -1), 60);
         check.due("shown 59", x.shown(0, 59), 'd');
@@ -98,7 +98,7 @@ public final class TermsTest {
 
     private static void alike(String left, String right, String fresh, int want) {
         for (int equation = 0; equation < 4; equation += 3) {
-            SwapNames x = new SwapNames();
+            Subject x = new Subject();
             Check.type(x, 2 * equation, left);
             Check.type(x, 2 * equation + 1, right);
             Check.type(x, 8, fresh);
@@ -152,7 +152,7 @@ public final class TermsTest {
         alike("!cd.aP", ".b!cd!abP", "bP", 1);
         alike(".c!abP", ".d!abP", "cPdP", 1);
         alike(".a,aP", ".b,bP", "aPbPc", 0);
-        SwapNames x = Check.with("P", "!abP", "P", "P");
+        Subject x = Check.with("P", "!abP", "P", "P");
         check.due("alike, not", x.alike(0), 0);
         check.due("alike, behind another", x.alike(1), 1);
         check.due("alike of none", Check.with("a").alike(0), -3);
@@ -161,7 +161,7 @@ public final class TermsTest {
     }
 
     private static void wrongNumbers() {
-        SwapNames x = Check.with("a", "a");
+        Subject x = Check.with("a", "a");
         for (int bad : new int[] {-1, 8, 9, Integer.MIN_VALUE, Integer.MAX_VALUE}) {
             check.due("term of " + bad, x.term(bad, 0), -2);
             check.due("shown of " + bad, x.shown(bad, 0), -2);

@@ -14,7 +14,7 @@ public final class TextsTest {
     }
 
     private static void newObject() {
-        SwapNames x = new SwapNames();
+        Subject x = new Subject();
         for (int text = 0; text < 10; text++) {
             check.due("new undo " + text, x.undo(text), -3);
             check.due("new wipe " + text, x.wipe(text), 0);
@@ -26,12 +26,12 @@ public final class TextsTest {
         for (int s = 0; s < 4; s++) {
             check.due("new lose " + s, x.lose(s), -11);
         }
-        check.due("two objects", new SwapNames().digest(), x.digest());
+        check.due("two objects", new Subject().digest(), x.digest());
     }
 
     private static void type() {
         for (int text = 0; text < 10; text++) {
-            SwapNames x = new SwapNames();
+            Subject x = new Subject();
             int most = text < 8 ? 30 : 24;
             for (int i = 1; i <= most; i++) {
                 check.due("type", x.type(text, i % 2 == 0 ? 0 : 255), i);
@@ -41,7 +41,7 @@ public final class TextsTest {
             check.due("bytes", x.count(4), most);
             check.due("type elsewhere", x.type((text + 1) % 10, 97), 1);
         }
-        SwapNames x = new SwapNames();
+        Subject x = new Subject();
         check.due("type -1", x.type(-1, 97), -2);
         check.due("type 10", x.type(10, 97), -2);
         check.due("type least", x.type(Integer.MIN_VALUE, 97), -2);
@@ -53,7 +53,7 @@ public final class TextsTest {
     }
 
     private static void wipeAndUndo() {
-        SwapNames x = Check.with(",ab", "", "P");
+        Subject x = Check.with(",ab", "", "P");
         check.due("undo", x.undo(0), 2);
         check.due("fault after undo", x.fault(0), 2);
         check.due("type after undo", x.type(0, 'c'), 3);
@@ -67,7 +67,7 @@ public final class TextsTest {
         check.due("wipe 10", x.wipe(10), -2);
         check.due("undo -1", x.undo(-1), -2);
         check.due("undo 10", x.undo(10), -2);
-        SwapNames y = Check.with("", "", "", "", "", "", "", "", "aP", "ab");
+        Subject y = Check.with("", "", "", "", "", "", "", "", "aP", "ab");
         check.due("wipe FRESH", y.wipe(8), 2);
         check.due("fresh after wipe", y.fresh(0), 0);
         check.due("undo SWAPS", y.undo(9), 1);
@@ -75,7 +75,7 @@ public final class TextsTest {
     }
 
     private static void fault(int text, String bytes, int want) {
-        SwapNames x = new SwapNames();
+        Subject x = new Subject();
         Check.type(x, text, bytes);
         check.due("fault of " + text + " '" + bytes + "'", x.fault(text), want);
     }
@@ -110,7 +110,7 @@ public final class TextsTest {
         fault(0, ".abg", 3);
         fault(0, "000000000000000000000000000000", 30);
         for (int text : new int[] {-1, 10, Integer.MIN_VALUE, Integer.MAX_VALUE}) {
-            check.due("fault " + text, new SwapNames().fault(text), -2);
+            check.due("fault " + text, new Subject().fault(text), -2);
         }
     }
 
@@ -135,7 +135,7 @@ public final class TextsTest {
     }
 
     private static void faultIsAsIfEmpty() {
-        SwapNames x = Check.with("P", "aa", "b", "Q", "", "", "", "", "aPb", "abc");
+        Subject x = Check.with("P", "aa", "b", "Q", "", "", "", "", "aPb", "abc");
         check.due("term", x.term(1, 0), 0);
         check.due("shown", x.shown(1, -1), 0);
         check.due("turned", x.turned(1, 0), -1);
@@ -159,7 +159,7 @@ public final class TextsTest {
     }
 
     private static void read() {
-        SwapNames x = new SwapNames();
+        Subject x = new Subject();
         check.due("read text -1", x.read(-1, 0), -2);
         check.due("read text 10", x.read(10, 0), -2);
         check.due("read sheet -1", x.read(0, -1), -2);

@@ -12,13 +12,13 @@ public final class TurnTest {
         check.end("TurnTest");
     }
 
-    private static SwapNames turning(String swaps) {
-        SwapNames x = new SwapNames();
+    private static Subject turning(String swaps) {
+        Subject x = new Subject();
         Check.type(x, 9, swaps);
         return x;
     }
 
-    private static String images(SwapNames x, int what) {
+    private static String images(Subject x, int what) {
         StringBuilder out = new StringBuilder();
         for (int name = 0; name < 6; name++) {
             out.append((char) ('a' + x.turn(name, what)));
@@ -44,7 +44,7 @@ public final class TurnTest {
     }
 
     private static void power() {
-        SwapNames x = turning("abbcde");
+        Subject x = turning("abbcde");
         String[][] rows = {{"0", "abcdef"}, {"1", "bcaedf"}, {"2", "cabdef"}, {"3", "abcedf"}, {"-1", "cabedf"},
             {"-2", "bcadef"}, {"-3", "abcedf"}, {"6", "abcdef"}, {"7", "bcaedf"}, {"-7", "cabedf"},
             {"2147483647", "bcaedf"}, {"-2147483648", "bcadef"}, {"2147483646", "abcdef"}};
@@ -55,11 +55,11 @@ public final class TurnTest {
             }
             check.due("power " + row[0], out.toString(), row[1]);
         }
-        SwapNames five = turning("abbccdde");
+        Subject five = turning("abbccdde");
         check.due("power of a ring of five", five.power(0, 1000000001), 1);
         check.due("power of a ring of five, back", five.power(0, -1000000001), 4);
         check.due("power of a NAME that stays", five.power(5, 77), 5);
-        SwapNames four = turning("abbccdef");
+        Subject four = turning("abbccdef");
         check.due("power of a ring of four", four.power(0, 30), 2);
     }
 
@@ -79,7 +79,7 @@ public final class TurnTest {
             {"abbcdeef", 3, 1, 2, 0},
             {"bcaa", 2, 0, 1, 57}};
         for (Object[] row : rows) {
-            SwapNames x = turning((String) row[0]);
+            Subject x = turning((String) row[0]);
             for (int what = 0; what < 4; what++) {
                 check.due("rounds " + what + " of " + row[0], x.rounds(what), (Integer) row[what + 1]);
             }
@@ -91,16 +91,16 @@ public final class TurnTest {
             {"efcdab", "!ab!cd!ef"}, {"efdecdbcab", "!af!bf!cf!df!ef"}, {"abbccddeef", "!ab!bc!cd!de!ef"},
             {"abacad", "!ad!bd!cd"}, {"dfab", "!ab!df"}};
         for (String[] row : rows) {
-            SwapNames x = turning(row[0]);
+            Subject x = turning(row[0]);
             check.due("shows " + row[0], Check.shows(x), row[1]);
             check.due("swaps of " + row[0], x.count(7), row[1].length() / 3);
-            SwapNames again = turning(row[1].replace("!", ""));
+            Subject again = turning(row[1].replace("!", ""));
             check.due("shows again " + row[0], images(again, 0), images(x, 0));
         }
     }
 
     private static void showsAnew() {
-        SwapNames x = turning("ab");
+        Subject x = turning("ab");
         check.due("shows at first", Check.shows(x), "!ab");
         Check.type(x, 9, "cd");
         check.due("shows then", Check.shows(x), "!ab!cd");
@@ -109,7 +109,7 @@ public final class TurnTest {
     }
 
     private static void wrongNumbers() {
-        SwapNames x = turning("ab");
+        Subject x = turning("ab");
         for (int bad : new int[] {-1, 6, Integer.MIN_VALUE, Integer.MAX_VALUE}) {
             check.due("turn of " + bad, x.turn(bad, 0), -2);
             check.due("power of " + bad, x.power(bad, 1), -2);
