@@ -61,7 +61,8 @@ public final class DigestEdgesTest {
             full + "a " + full + "P " + full + "Q " + full + "P " + most + " " + most + " " + most + " " + most + " "
                 + "aP".repeat(12) + " " + "ab".repeat(11) + "bc",
             DOUBLES + " 000,P,P,P,P,P,P,P,P,Q,Q,ST 000,P,P,P,P,P,P,P,P,Q,Q,ST",
-            Edges.full('g', 30), "P a       aP abbccddeef", "P 0P a b   a b", ".ab .ba P 0P !abQ Q R a aRbQ abcdef"};
+            Edges.full('g', 30), "P a       aP abbccddeef", "P 0P a b   a b", ".ab .ba P 0P !abQ Q R a aRbQ abcdef",
+            "P !abP Q 0!bcR R !efR ,ST ,aU aPfUcQ abbcde"};
         for (String texts : all) {
             Subject x = Check.with(texts.split(" ", -1));
             edges.due("digest of " + texts, x.digest(), Digest.of(Check.with(texts.split(" ", -1))));

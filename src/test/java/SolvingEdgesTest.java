@@ -36,6 +36,7 @@ public final class SolvingEdgesTest {
         valueNumbers();
         valueOfNone();
         valueUpToSixty();
+        valueOfDeepPairs();
         freshNumbers();
         freshOfAll();
         needsNumbers();
@@ -153,6 +154,9 @@ public final class SolvingEdgesTest {
             fresh("!ab!bc" + p + " !ab!cd" + p, want);
             solved(FIVE + p + " " + p, 0, -1, 1, 0);
         }
+        fresh("!abP P !bcP P", 7);
+        fresh("!abP P !bcP P     fP", 39);
+        fresh(",PP ,!ab!bcP!efP       dP", 63);
     }
 
     private static void twoUnknowns() {
@@ -211,6 +215,11 @@ public final class SolvingEdgesTest {
         solved(",U,T,S,R,QP ,0T,0S,0R,0Q,0P0U", 2, 0, 11, 5);
         solved("P Q Q 0P", 2, 1, 2, 1);
         solved("P Q P 0Q", 2, 1, 2, 1);
+        // It is in one of several VALUES: the first, the last, one of a VALUE.
+        solved("P ,QR Q 0S R 0P", 2, 2, 3, 2);
+        solved("P ,QR R 0S Q 0P", 2, 2, 3, 2);
+        solved("P ,QR Q 0S R 0T S 0P", 2, 3, 4, 3);
+        solved("P ,QR Q 0S R 0T T 0P", 2, 3, 4, 3);
     }
 
     private static void noLoop() {
@@ -456,6 +465,22 @@ public final class SolvingEdgesTest {
         edges.due("P needs", x.needs(0), 16);
     }
 
+    private static String nested(int pairs, char first) {
+        return Edges.full(',', pairs) + first + Edges.full('a', pairs);
+    }
+
+    /** P starts with Q, Q with R, R with S, S with T, each 13 PAIRS down: 52 PAIRS stand open ahead of those of T. */
+    private static void valueOfDeepPairs() {
+        edges.says(16, "all VALUES put in; 60 bytes at most are told, of PAIRS inside PAIRS");
+        for (int pairs = 0; pairs <= 14; pairs++) {
+            Subject x = with(",P" + nested(13, 'R') + " ," + nested(13, 'Q') + "Q ,R" + nested(13, 'T') + " ," + nested(13, 'S') + "S T "
+                + nested(pairs, 'b'));
+            edges.due("VALUES with " + pairs, x.solved(3), 5);
+            edges.due("T with " + pairs, Check.value(x, 4), nested(pairs, 'b'));
+            edges.due("P with " + pairs, Check.value(x, 0), nested(52 + pairs, 'b').substring(0, 60));
+        }
+    }
+
     private static void freshNumbers() {
         edges.says(17, "an UNKNOWN; BAD");
         for (int bad : Edges.outside(6)) {
@@ -484,6 +509,11 @@ public final class SolvingEdgesTest {
         fresh("P 0Q       aPbPcPdQeQfQ", 0, 63);
         fresh("P " + FIVE + "Q       aPbQ", 5, 0);
         fresh("P a Q 0R R 0S   aQ", 0, 0, 0, 1);
+        // From VALUE to VALUE, each in an EQUATION behind or ahead of the last one.
+        fresh("T 0P P 0Q Q 0R R 0!abS aT", 0, 0, 0, 2, 0, 0);
+        fresh("R 0!abS Q 0R P 0Q T 0P aT", 0, 0, 0, 2, 0, 0);
+        fresh(",P,Q,R,ST ,0Q,0R,0S,0T0U       aP", 0, 0, 0, 0, 0, 1);
+        fresh(",T,S,R,QP ,0U,0T,0S,0R0Q       aP", 0, 0, 0, 0, 0, 1);
         fresh("P ,Q,R,S,TU       aPfP", 0, 33, 33, 33, 33, 33);
     }
 
@@ -511,6 +541,9 @@ public final class SolvingEdgesTest {
         needs("P ,Q,R,S,TU", 62, 2, 4, 8, 16, 32);
         needs("U ,Q,R,S,TP", 1, 2, 4, 8, 16, 31);
         needs("P 0Q Q 0R R 0S S ,TU", 48, 48, 48, 48, 16, 32);
+        needs("P ,QR Q 0S", 12, 8, 4, 8, 16, 32);
+        needs("P ,QR R 0S", 10, 2, 8, 8, 16, 32);
+        needs("P ,QR R ,ST Q U", 26, 2, 24, 8, 16, 2);
         needs("P 0Q Q 0R R 0S S 0*", 0, 0, 0, 0, 16, 32);
         needs(",P,Q,R,S,TU ,0Q,0R,0S,0T,0U*", 0, 0, 0, 0, 0, 0);
         needs("P Q", 1, 1);
@@ -633,6 +666,7 @@ public final class SolvingEdgesTest {
         spare(DOUBLES + many + " " + many, 0);
         spare(DOUBLES + many + " " + many + " a b", -1);
         spare("a b " + DOUBLES + many + " " + many, -1);
+        spare("a b   " + DOUBLES + many + " " + many, -1);
         // One STEP too many is that of EQUATION 0; two too many are not, but without EQUATION 1 no VALUE is gone into.
         spare("a a " + DOUBLES + "00" + MANY + " 00" + MANY, 0);
         spare("a a " + DOUBLES + "000" + MANY + " 000" + MANY, 1);
