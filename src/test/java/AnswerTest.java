@@ -4,7 +4,8 @@ import java.util.Random;
 
 /**
  * What an answer means, by the class alone: VALUES are put in for UNKNOWNS as bytes (behind a SWAP they are under it),
- * and alike() tells whether the EQUATIONS hold. Neither Model nor STEPS are asked, so a misreading in both would show.
+ * and alike() tells whether the EQUATIONS hold. Model is not asked, so a misreading of SOLVING that both share could
+ * show here; one of ALIKE itself, or of how many STEPS there are, could not.
  */
 public final class AnswerTest {
     private static final Check check = new Check();
